@@ -39,14 +39,15 @@ public final class PairedGates {
     private static final int STEP = 2;
 
     private final Lane[] lanes;
-    private final Acceptances acceptances;
+    // Every acceptance stays here, as an account may not come again too soon, whatever became of its token.
+    private final TokenList acceptances;
     private final Refunds refundList;
     private boolean alarmOn;
     private int now;
 
     public PairedGates() {
         lanes = new Lane[] {new Lane(), new Lane()};
-        acceptances = new Acceptances();
+        acceptances = new TokenList(MOST_CALLS);
         refundList = new Refunds();
         alarmOn = false;
         now = 0;
@@ -73,7 +74,7 @@ public final class PairedGates {
     public int token(int lane, int side, int account)
             throws IndexOutOfBoundsException, IllegalArgumentException {
         Lane place = laneAt(lane);
-        TokenQueue queue = queueAt(place, side);
+        TokenList queue = queueAt(place, side);
         if (account < 0) {
             throw new IllegalArgumentException("an account is not below 0");
         }
@@ -83,7 +84,7 @@ public final class PairedGates {
         if (acceptances.hasRecent(account, now)) {
             return REPEATED;
         }
-        // The log of acceptances has room for every call that is promised: only later calls find it full.
+        // The list of acceptances has room for every call that is promised: only later calls find it full.
         if (queue.isFull() || acceptances.isFull()) {
             return FULL;
         }
@@ -93,7 +94,7 @@ public final class PairedGates {
     }
 
     public int cancel(int lane, int side) throws IndexOutOfBoundsException {
-        TokenQueue queue = queueAt(laneAt(lane), side);
+        TokenList queue = queueAt(laneAt(lane), side);
         if (queue.size == 0) {
             return NONE;
         }
@@ -189,7 +190,7 @@ public final class PairedGates {
         return lanes[lane];
     }
 
-    private static TokenQueue queueAt(Lane place, int side) {
+    private static TokenList queueAt(Lane place, int side) {
         if (side < 0 || side >= place.queues.length) {
             throw new IndexOutOfBoundsException("there is no such side");
         }
@@ -208,7 +209,7 @@ public final class PairedGates {
         final Eye eye = new Eye();
         final Blobs blobs = new Blobs();
         final Paddles paddles = new Paddles();
-        final TokenQueue[] queues = {new TokenQueue(), new TokenQueue()};
+        final TokenList[] queues = {new TokenList(MOST_WAITING), new TokenList(MOST_WAITING)};
         final int[] counts = new int[KINDS];
         // The blob that each body of the row goes to at this tick, NONE for one that leaves.
         final int[] goals = new int[MOST_BODIES];
@@ -476,62 +477,17 @@ public final class PairedGates {
         }
     }
 
-    /** The tokens that wait in a lane on a side, the oldest first. */
-    private static final class TokenQueue {
-        final int[] accounts = new int[MOST_WAITING];
-        final int[] since = new int[MOST_WAITING];
+    /** Tokens with the times at which they were accepted, the oldest first. */
+    private static final class TokenList {
+        final int[] accounts;
+        final int[] times;
         int size = 0;
 
-        boolean isFull() {
-            return size >= accounts.length;
+        TokenList(int most) {
+            int room = Math.max(most, 0);
+            accounts = new int[room];
+            times = new int[room];
         }
-
-        void add(int account, int now) {
-            if (size < accounts.length) {
-                accounts[size] = account;
-                since[size] = now;
-                size++;
-            }
-        }
-
-        int accountAt(int i) {
-            return i >= 0 && i < size ? accounts[i] : NONE;
-        }
-
-        int removeOldest() {
-            if (size == 0) {
-                return NONE;
-            }
-            int oldest = accounts[0];
-            size--;
-            for (int i = 0; i < size; i++) {
-                accounts[i] = accounts[i + 1];
-                since[i] = since[i + 1];
-            }
-            return oldest;
-        }
-
-        void refundExpired(int now, Refunds refundList) {
-            int most = size;
-            for (int i = 0; i < most && now - since[0] >= LONGEST_WAIT; i++) {
-                refundList.add(removeOldest());
-            }
-        }
-
-        int refundAll(Refunds refundList) {
-            int refunded = size;
-            for (int i = 0; i < refunded; i++) {
-                refundList.add(removeOldest());
-            }
-            return refunded;
-        }
-    }
-
-    /** Every acceptance with its time, as an account may not come again too soon, whatever became of its token. */
-    private static final class Acceptances {
-        final int[] accounts = new int[MOST_CALLS];
-        final int[] times = new int[MOST_CALLS];
-        int size = 0;
 
         boolean isFull() {
             return size >= accounts.length;
@@ -545,14 +501,46 @@ public final class PairedGates {
             }
         }
 
+        int accountAt(int i) {
+            return i >= 0 && i < size ? accounts[i] : NONE;
+        }
+
         boolean hasRecent(int account, int now) {
-            // Times never fall along the log, so what stands before an old one is old too.
+            // Times never fall along the list, so what stands before an old one is old too.
             for (int i = size - 1; i >= 0 && now - times[i] < REPEAT_TICKS; i--) {
                 if (accounts[i] == account) {
                     return true;
                 }
             }
             return false;
+        }
+
+        int removeOldest() {
+            if (size == 0) {
+                return NONE;
+            }
+            int oldest = accounts[0];
+            size--;
+            for (int i = 0; i < size; i++) {
+                accounts[i] = accounts[i + 1];
+                times[i] = times[i + 1];
+            }
+            return oldest;
+        }
+
+        void refundExpired(int now, Refunds refundList) {
+            int most = size;
+            for (int i = 0; i < most && now - times[0] >= LONGEST_WAIT; i++) {
+                refundList.add(removeOldest());
+            }
+        }
+
+        int refundAll(Refunds refundList) {
+            int refunded = size;
+            for (int i = 0; i < refunded; i++) {
+                refundList.add(removeOldest());
+            }
+            return refunded;
         }
     }
 

@@ -134,10 +134,25 @@ public final class BodiesTest {
         dueRow("and one is made at the same tick", gates,
                 "3..3 side 0 token -1 length 3", "6..6 side 1 token -1 length 2",
                 "6..6 side 1 token -1 length 3", "9..9 side 1 token -1 length 1");
+        earlierBlobsAreNotMadeEither();
         PairedGates split = shown(0b0001000001, Walk.row(0, 9), 0b1001001001);
         dueRow("two become four", split,
                 "0..0 side 0 token -1 length 5", "3..3 side 0 token -1 length 1",
                 "6..6 side 1 token -1 length 5", "9..9 side 1 token -1 length 1");
+    }
+
+    /** Who is there stays, also behind a blob to which none went. */
+    private static void earlierBlobsAreNotMadeEither() {
+        PairedGates four = shown(0b1001001001, Walk.row(0, 9), Walk.row(1, 9), Walk.row(2, 9), Walk.row(3, 9));
+        Walk.show(four, 0, Walk.row(3, 9) | 1);
+        dueRow("four are there, a blob comes before them", four,
+                "3..3 side 0 token -1 length 2", "4..5 side 0 token -1 length 3",
+                "6..7 side 1 token -1 length 2", "8..9 side 1 token -1 length 3");
+        PairedGates three = shown(0b1001000001, Walk.row(0, 9), Walk.row(2, 9), Walk.row(4, 9), Walk.row(6, 9));
+        Walk.show(three, 0, Walk.row(6, 9) | 0b1001);
+        dueRow("three are there, two blobs come before them", three,
+                "0..0 side 0 token -1 length 1", "6..6 side 0 token -1 length 3",
+                "7..7 side 1 token -1 length 3", "8..9 side 1 token -1 length 4");
     }
 
     private static void newBodyStandsInItsPlace() {
