@@ -50,11 +50,11 @@ public final class CountTest {
         for (int beams = 1; beams <= 8; beams++) {
             for (int lane = 0; lane < 2; lane++) {
                 PairedGates gates = new PairedGates();
+                // Bits behind beam 9 do not count, so it walks out of the row beam by beam.
                 for (int first = 0; first < 10; first++) {
                     Walk.show(gates, lane, Walk.row(first, first + beams - 1));
                 }
                 check.due("one of " + beams + " leaves", Walk.show(gates, lane, 0), 1);
-                // Words have no beams behind the ninth, so the longest is cut only after it was whole.
                 check.due("count(1) of length " + beams, gates.count(lane, 1), 1);
                 check.due("count(4) of length " + beams, gates.count(lane, 4), beams >= 6 ? 1 : 0);
                 check.due("count(4) of the other lane", gates.count(1 - lane, 4), 0);

@@ -68,7 +68,7 @@ public final class RefundTest {
         dueList("what waited comes before what left", gates, 42, 43, 41, 44);
     }
 
-    /** As many refunds as 512 calls can make of tokens and ticks, told of in calls of no object that counts. */
+    /** About as many refunds as 512 calls can make: 24 tokens and the ticks that refund them, again and again. */
     private static void mostInAnObject() {
         PairedGates gates = new PairedGates();
         int calls = 0;
