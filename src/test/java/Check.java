@@ -1,3 +1,5 @@
+import java.util.HashSet;
+import java.util.Set;
 import java.util.function.IntSupplier;
 
 /** What the tests share: compares answers with those that are due, and ends the run by them. */
@@ -8,20 +10,40 @@ final class Check {
 
     private int wrong = 0;
     private int looked = 0;
+    private final Set<String> sentences = new HashSet<>();
+    private String sentence = "";
+    private int lookedBefore = 0;
+
+    /** The words of the document that the answers from here on are due by. */
+    void sentence(String words) {
+        endSentence();
+        sentences.add(words);
+        sentence = words;
+        lookedBefore = looked;
+    }
+
+    private void endSentence() {
+        if (!sentences.isEmpty() && looked == lookedBefore) {
+            tell("nothing was looked at");
+        }
+    }
+
+    private void tell(String fault) {
+        wrong++;
+        System.out.println((sentence.isEmpty() ? "" : "\"" + sentence + "\": ") + fault);
+    }
 
     void due(String call, long got, long want) {
         looked++;
         if (got != want) {
-            wrong++;
-            System.out.println(call + " answered " + got + ", due is " + want);
+            tell(call + " answered " + got + ", due is " + want);
         }
     }
 
     void due(String call, String got, String want) {
         looked++;
         if (!got.equals(want)) {
-            wrong++;
-            System.out.println(call + " answered " + got + ", due is " + want);
+            tell(call + " answered " + got + ", due is " + want);
         }
     }
 
@@ -29,8 +51,7 @@ final class Check {
         looked++;
         String got = thrownBy(action);
         if (!got.equals(name)) {
-            wrong++;
-            System.out.println(call + " threw " + got + ", due is " + name);
+            tell(call + " threw " + got + ", due is " + name);
         }
     }
 
@@ -45,7 +66,9 @@ final class Check {
     }
 
     void end() {
-        System.out.println(looked + " answers, " + wrong + " not as due");
+        endSentence();
+        String of = sentences.isEmpty() ? "" : " of " + sentences.size() + " sentences";
+        System.out.println(looked + " answers" + of + ", " + wrong + " not as due");
         if (wrong != 0 || looked == 0) {
             System.exit(1);
         }

@@ -83,7 +83,8 @@ public final class FaceTest {
             if (!Modifier.isPrivate(kind)) {
                 found.add(Modifier.toString(kind) + " " + field.getType() + " " + field.getName());
             }
-            check.due(field + " is not static or final too", Modifier.isStatic(kind) && !Modifier.isFinal(kind) ? 1 : 0, 0);
+            boolean loose = Modifier.isStatic(kind) && !Modifier.isFinal(kind);
+            check.due(field + " is static but not final", loose ? 1 : 0, 0);
         }
         String start = "public static final int ";
         due("constants", found.toString(), new TreeSet<>(Set.of(start + "ACCEPTED", start + "CLOSED", start + "FULL",

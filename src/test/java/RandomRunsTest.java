@@ -1,11 +1,16 @@
 import java.util.Arrays;
+import java.util.List;
 import java.util.Random;
 
-/** Many runs of calls, always the same ones, on PairedGates and on Model, with all answers compared. */
+/**
+ * Many runs of calls, always the same ones, on PairedGates and on Model, with all answers compared.
+ *
+ * A step makes two calls at most and two questions, the end of a run some 120 more: a run stays below 512 calls.
+ */
 public final class RandomRunsTest {
     private static final Check check = new Check();
-    private static final int RUNS = 400;
-    private static final int CALLS = 200;
+    private static final int RUNS = 1200;
+    private static final int STEPS = 95;
 
     private final Random random;
     private final String name;
@@ -35,10 +40,72 @@ public final class RandomRunsTest {
     }
 
     private void calls() {
-        for (int i = 0; i < CALLS; i++) {
-            call(name + "call " + i + ": ");
-            compare(name + "after call " + i + ": ");
+        for (int i = 0; i < STEPS; i++) {
+            call(name + "step " + i + ": ");
+            ask(name + "behind step " + i + ": ", random.nextInt(2));
+            ask(name + "behind step " + i + ": ", random.nextInt(2));
         }
+        compare(name + "at the end: ");
+    }
+
+    private void ask(String at, int lane) {
+        Model.Gate due = model.gates[lane];
+        int some = random.nextInt(7) - 1;
+        switch (random.nextInt(9)) {
+            case 0:
+                check.due(at + "seen", gates.seen(lane), word(due));
+                break;
+            case 1:
+                check.due(at + "angle", gates.angle(lane), due.angle);
+                break;
+            case 2:
+                check.due(at + "order", gates.order(lane), due.order);
+                break;
+            case 3:
+                check.due(at + "count " + some, gates.count(lane, some), count(due, some));
+                break;
+            case 4:
+                check.due(at + "refunds", gates.refunds(), model.refundList.size());
+                break;
+            case 5:
+                check.due(at + "waits " + some, gates.waits(lane, 0, some), account(due.waiting.get(0), some));
+                break;
+            case 6:
+                check.due(at + "waits " + some, gates.waits(lane, 1, some), account(due.waiting.get(1), some));
+                break;
+            default:
+                askBody(at, lane, due);
+                break;
+        }
+    }
+
+    private void askBody(String at, int lane, Model.Gate due) {
+        if (due.row.isEmpty()) {
+            check.due(at + "bodies", gates.bodies(lane), 0);
+            return;
+        }
+        int i = random.nextInt(due.row.size());
+        int what = random.nextInt(5);
+        Model.Someone one = due.row.get(i);
+        int[] parts = {one.interval.first(), one.interval.last(), one.side,
+            one.token == null ? PairedGates.NONE : one.token.account(), one.length};
+        check.due(at + "body " + i + ", " + what, gates.body(lane, i, what), parts[what]);
+    }
+
+    private static int word(Model.Gate gate) {
+        int seen = 0;
+        for (int beam : gate.seen) {
+            seen += 1 << beam;
+        }
+        return seen;
+    }
+
+    private static int count(Model.Gate gate, int kind) {
+        return kind >= 0 && kind < 5 ? gate.counts[kind] : 0;
+    }
+
+    private static int account(List<Model.Token> waiting, int i) {
+        return i >= 0 && i < waiting.size() ? waiting.get(i).account() : PairedGates.NONE;
     }
 
     private void call(String at) {
@@ -132,21 +199,17 @@ public final class RandomRunsTest {
     }
 
     private void compareLane(String at, int lane, Model.Gate due) {
-        int seen = 0;
-        for (int beam : due.seen) {
-            seen += 1 << beam;
-        }
-        check.due(at + "seen", gates.seen(lane), seen);
+        check.due(at + "seen", gates.seen(lane), word(due));
         check.due(at + "angle", gates.angle(lane), due.angle);
         check.due(at + "order", gates.order(lane), due.order);
         for (int kind = -1; kind < 6; kind++) {
-            check.due(at + "count " + kind, gates.count(lane, kind), kind >= 0 && kind < 5 ? due.counts[kind] : 0);
+            check.due(at + "count " + kind, gates.count(lane, kind), count(due, kind));
         }
         for (int side = 0; side < 2; side++) {
             int waiting = due.waiting.get(side).size();
             check.due(at + "waiting " + side, gates.waiting(lane, side), waiting);
             for (int i = 0; i <= waiting; i++) {
-                int account = i < waiting ? due.waiting.get(side).get(i).account() : PairedGates.NONE;
+                int account = account(due.waiting.get(side), i);
                 check.due(at + "waits " + side + ", " + i, gates.waits(lane, side, i), account);
             }
         }

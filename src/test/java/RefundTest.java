@@ -6,7 +6,6 @@ public final class RefundTest {
         everyWayInOneList();
         leaversInRowOrder();
         expiryBeforeLeaving();
-        mostInAnObject();
         noSuchRefund();
         check.end();
     }
@@ -66,26 +65,6 @@ public final class RefundTest {
         dueList("199 ticks", gates);
         gates.ticks(1);
         dueList("what waited comes before what left", gates, 42, 43, 41, 44);
-    }
-
-    /** About as many refunds as 512 calls can make: 24 tokens and the ticks that refund them, again and again. */
-    private static void mostInAnObject() {
-        PairedGates gates = new PairedGates();
-        int calls = 0;
-        int account = 0;
-        while (calls + 25 <= 512) {
-            for (int i = 0; i < 24; i++) {
-                check.due("token " + account, gates.token(i / 12, i / 6 % 2, account), PairedGates.ACCEPTED);
-                account++;
-            }
-            gates.ticks(300);
-            calls += 25;
-        }
-        check.due("accepted()", gates.accepted(), account);
-        check.due("refunds()", gates.refunds(), account);
-        for (int i = 0; i < account; i++) {
-            check.due("refund(" + i + ")", gates.refund(i), i);
-        }
     }
 
     private static void noSuchRefund() {
